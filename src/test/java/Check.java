@@ -14,8 +14,17 @@ final class Check {
         checks++;
         if (!due.equals(got)) {
             wrong++;
-            System.out.println(what + " answered " + got + ", due is " + due);
+            report(what, String.valueOf(got).split("\n"), String.valueOf(due).split("\n"));
         }
+    }
+
+    /** Of long answers only the first line that differs, so that a report can be read. */
+    private static void report(String what, String[] got, String[] due) {
+        int line = 0;
+        while (line < got.length - 1 && line < due.length - 1 && got[line].equals(due[line])) {
+            line++;
+        }
+        System.out.println(what + " answered " + got[line] + ", due is " + due[line]);
     }
 
     /** What a call does: its answer as a text, or the exact class that it throws. */
