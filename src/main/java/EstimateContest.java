@@ -637,19 +637,11 @@ public final class EstimateContest {
         }
 
         int totalSize() {
-            int total = 0;
-            for (int c = 1; c <= MAX_CONFIDENCE; c++) {
-                total += sizes[c];
-            }
-            return total;
+            return sumOf(sizes);
         }
 
         int totalHits() {
-            int total = 0;
-            for (int c = 1; c <= MAX_CONFIDENCE; c++) {
-                total += hitCounts[c];
-            }
-            return total;
+            return sumOf(hitCounts);
         }
 
         int totalError() {
@@ -658,6 +650,14 @@ public final class EstimateContest {
                 total += Math.abs(CERTAINTY * hitCounts[c] - c * sizes[c]);
             }
             return total;
+        }
+
+        private static int sumOf(int[] counts) {
+            int sum = 0;
+            for (int count : counts) {
+                sum += count;
+            }
+            return sum;
         }
     }
 
@@ -1095,7 +1095,6 @@ public final class EstimateContest {
 
         void clear() {
             length = 0;
-            place = 0;
         }
 
         void rewind() {

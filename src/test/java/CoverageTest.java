@@ -8,6 +8,7 @@ final class CoverageTest {
         coverageCountsEnds();
         mostCoveredTakesTheLeast();
         wordEdges();
+        questionsAreApart();
         settledAndWithdrawnDoNotCount();
         queriesRefuse();
         Check.finish();
@@ -61,6 +62,7 @@ final class CoverageTest {
         most(290, 900, 100, 300, 250, 400, 290, 999);
         most(0, 1000, 0, 999, 0, 999, 0, 999, 0, 999, 0, 999);
         most(500, 5, 500, 500, 504, 504, 502, 502, 501, 501, 503, 503);
+        most(24, 18, 0, 3, 10, 12, 20, 30, 22, 30, 24, 30);
         most(40, 91, 0, 50, 10, 60, 20, 70, 30, 80, 40, 90);
         most(40, 91, 40, 90, 30, 80, 20, 70, 10, 60, 0, 50);
         most(750, 1000, 0, 999, 100, 200, 700, 900, 300, 400, 750, 800);
@@ -75,6 +77,24 @@ final class CoverageTest {
         most(960, 40, 960, 999, 960, 960);
         for (int value = 0; value < 1000; value += 31) {
             most(value, 1000, 0, 999, value, value);
+        }
+    }
+
+    /** All five share a value of the question 0, no two share one of the question 1. */
+    private static void questionsAreApart() {
+        EstimateContest contest = with(500, 510, 500, 520, 490, 500, 500, 500, 0, 999);
+        contest.openQuestion(1);
+        for (int player = 0; player < 5; player++) {
+            contest.estimate(player, 1, 20 * player + 3, 20 * player + 12, 5, 1);
+        }
+        for (int round = 0; round < 2; round++) {
+            Check.same("mostCovered", contest.mostCovered(0), 500);
+            Check.same("mostCovered", contest.mostCovered(1), 3);
+            Check.same("mostCoveredBySweep", contest.mostCoveredBySweep(0), 500);
+            Check.same("mostCoveredBySweep", contest.mostCoveredBySweep(1), 3);
+            Check.same("coveredValues", contest.coveredValues(0), 1000);
+            Check.same("coveredValues", contest.coveredValues(1), 50);
+            Check.same("isConsistent", contest.isConsistent(), true);
         }
     }
 

@@ -7,6 +7,7 @@ final class SettleTest {
         hitsIncludeBothEnds();
         scoresRoundTheQuotientAlone();
         scoresOverAllConfidences();
+        hitsOverAllConfidences();
         settleTakesTheFirst();
         settleTakesTheEdges();
         settleRefuses();
@@ -83,6 +84,19 @@ final class SettleTest {
                 Check.same("above", settled(1, 100, 105, confidence, 1, 105 + distance).score(0), due);
                 Check.same("below", settled(1, 100, 105, confidence, 1, 100 - distance).score(0), due);
             }
+        }
+    }
+
+    private static void hitsOverAllConfidences() {
+        for (int confidence = 1; confidence <= 9; confidence++) {
+            EstimateContest hit = settled(1, 5, 5, confidence, 1, 5);
+            EstimateContest miss = settled(1, 5, 5, confidence, 1, 6);
+            Check.same("hits", hit.hits(0), 1);
+            Check.same("no hits", miss.hits(0), 0);
+            Check.same("settledEstimates", hit.settledEstimates(0), 1);
+            Check.same("settledEstimates", miss.settledEstimates(0), 1);
+            Check.same("error of a hit", hit.calibrationError(0), 10 - confidence);
+            Check.same("error of a miss", miss.calibrationError(0), confidence);
         }
     }
 

@@ -10,6 +10,8 @@ final class UndoTest {
         onlyEightAreKept();
         undoAndGoOn();
         undoneRowsAreFresh();
+        restoredRowsAreFresh();
+        failedRowsAreFresh();
         undoRefuses();
         saveAndRestore();
         saveIsReplaced();
@@ -127,11 +129,49 @@ final class UndoTest {
             contest.undo();
         }
         Check.same("empty again", View.of(contest), View.of(new EstimateContest()));
-        contest.addPlayer();
-        contest.openQuestion(1);
+        asNewFromHere(contest);
+    }
+
+    private static void asNewFromHere(EstimateContest contest) {
         EstimateContest fresh = new EstimateContest();
+        for (EstimateContest one : new EstimateContest[] {contest, fresh}) {
+            one.addPlayer();
+            one.openQuestion(1);
+        }
+        Check.same("as new", View.of(contest), View.of(fresh));
+    }
+
+    /** Spoils the rows of a player and of a question, which the state before does not hold. */
+    private static void spoil(EstimateContest contest) {
+        contest.addPlayer();
+        contest.openQuestion(3);
+        contest.estimate(0, 0, 5, 6, 7, 8);
+        contest.settle(5);
+        contest.openQuestion(3);
+        contest.estimate(0, 1, 5, 6, 7, 8);
+        contest.settle(9);
+        contest.openQuestion(2);
+        contest.withdraw(0);
+    }
+
+    private static void restoredRowsAreFresh() {
+        EstimateContest contest = new EstimateContest();
+        contest.save();
+        spoil(contest);
+        contest.restore();
+        Check.fails("bestCalibrated", java.util.NoSuchElementException.class, contest::bestCalibrated);
+        Check.same("empty again", View.of(contest), View.of(new EstimateContest()));
+        asNewFromHere(contest);
+    }
+
+    private static void failedRowsAreFresh() {
+        EstimateContest contest = new EstimateContest();
+        Check.outcome(() -> View.run(contest, "player;open 1;bet 0 0 0-9 9 20;settle 10;out 0;out 0"));
+        EstimateContest fresh = new EstimateContest();
+        Check.outcome(() -> View.run(fresh, "player;player;player;player;player;player"));
+        Check.same("empty again", View.of(contest), View.of(fresh));
+        contest.addPlayer();
         fresh.addPlayer();
-        fresh.openQuestion(1);
         Check.same("as new", View.of(contest), View.of(fresh));
     }
 
