@@ -6,8 +6,18 @@ import java.util.function.Supplier;
 final class Check {
     private static int checks = 0;
     private static int wrong = 0;
+    private static String about = "";
 
     private Check() {
+    }
+
+    /** Names the sentence that is tested, for the reports. */
+    static void about(String name) {
+        about = name.isEmpty() ? "" : "[" + name + "] ";
+    }
+
+    static int count() {
+        return checks;
     }
 
     static void same(String what, Object got, Object due) {
@@ -24,7 +34,7 @@ final class Check {
         while (line < got.length - 1 && line < due.length - 1 && got[line].equals(due[line])) {
             line++;
         }
-        System.out.println(what + " answered " + got[line] + ", due is " + due[line]);
+        System.out.println(about + what + " answered " + got[line] + ", due is " + due[line]);
     }
 
     /** What a call does: its answer as a text, or the exact class that it throws. */
@@ -42,31 +52,16 @@ final class Check {
 
     /**
      * Makes two objects in the same way and lets the call fail on one of them: it must throw exactly the due class, and
-     * the two must answer alike ever after.
+     * the two must answer alike ever after. Each look at the two uses up calls, so each has two objects of its own.
      */
     static void refused(String what, Class<? extends RuntimeException> due, Consumer<EstimateContest> scene,
             Function<EstimateContest, Object> call) {
-        EstimateContest tried = new EstimateContest();
-        EstimateContest twin = new EstimateContest();
-        scene.accept(tried);
-        scene.accept(twin);
-        fails(what, due, () -> call.apply(tried));
-        sameForEver(what + " leaves the state", tried, twin);
-    }
-
-    /** Uses both objects up: compares all that can be seen, then the input buffer, all undoable states and the saved one. */
-    static void sameForEver(String what, EstimateContest tried, EstimateContest twin) {
-        same(what, View.of(tried), View.of(twin));
-        same(what + ", the input", View.ofInput(tried), View.ofInput(twin));
-        int steps = twin.undoCount();
-        for (int i = 0; i < steps; i++) {
-            String due = outcome(twin::undo);
-            same(what + ", undo", outcome(tried::undo), due);
-            same(what + ", undone", View.of(tried), View.of(twin));
+        for (View.Look look : View.LOOKS) {
+            EstimateContest tried = Scenes.made(scene);
+            EstimateContest twin = Scenes.made(scene);
+            fails(what, due, () -> call.apply(tried));
+            same(what + " leaves the state", look.at(tried), look.at(twin));
         }
-        String due = outcome(twin::restore);
-        same(what + ", restore", outcome(tried::restore), due);
-        same(what + ", restored", View.of(tried), View.of(twin));
     }
 
     static void finish() {

@@ -35,11 +35,14 @@ final class CoverageTest {
                 dueCoverage[v]++;
             }
         }
-        boolean agrees = true;
-        for (int v = 0; v < 1000; v++) {
-            agrees &= contest.coverage(0, v) == dueCoverage[v];
+        for (int start = 0; start < 1000; start += 250) {
+            EstimateContest asked = with(ends);
+            boolean agrees = true;
+            for (int v = start; v < start + 250; v++) {
+                agrees &= asked.coverage(0, v) == dueCoverage[v];
+            }
+            Check.same("coverage", agrees, true);
         }
-        Check.same("coverage", agrees, true);
         Check.same("isConsistent", contest.isConsistent(), true);
     }
 

@@ -196,12 +196,20 @@ final class UndoTest {
         Check.same("restore", contest.restore(), 3);
         Check.same("restored", state(contest), before);
         Check.same("the next number", contest.openQuestion(1), 4);
+        restoreAgain();
+    }
+
+    private static void restoreAgain() {
+        EstimateContest contest = new EstimateContest();
+        Scenes.busy(contest);
+        contest.save();
+        String before = state(contest);
+        contest.restore();
         contest.settle(1);
         contest.settle(2);
-        Check.same("restore again", contest.restore(), 3);
-        Check.same("restored again", state(contest), before);
-        contest.estimate(0, 3, 1, 1, 1, 1);
         contest.restore();
+        contest.estimate(0, 3, 1, 1, 1, 1);
+        Check.same("restore again", contest.restore(), 3);
         Check.same("the saved state is apart", state(contest), before);
     }
 

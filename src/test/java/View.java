@@ -1,6 +1,26 @@
+import java.util.ArrayList;
+import java.util.List;
+
 /** Everything of a contest that can be seen without changing it, as a text. */
 final class View {
+    /** A look at a contest, which may change it. */
+    interface Look {
+        String at(EstimateContest contest);
+    }
+
+    /** Together they show the state, all states that undo and restore bring back, and what becomes of further changes. */
+    static final List<Look> LOOKS = looks();
+
     private View() {
+    }
+
+    private static List<Look> looks() {
+        List<Look> looks = new ArrayList<>(List.of(View::of, View::ofInput, View::afterRestore, View::afterChanges));
+        for (int steps = 1; steps <= 8; steps++) {
+            int undone = steps;
+            looks.add(contest -> afterUndo(contest, undone));
+        }
+        return looks;
     }
 
     static String of(EstimateContest contest) {
@@ -40,6 +60,29 @@ final class View {
         String length = Check.outcome(() -> contest.feed('!'));
         String run = Check.outcome(contest::runCommands);
         return length + " " + run + " " + Check.outcome(contest::errorPosition);
+    }
+
+    private static String afterRestore(EstimateContest contest) {
+        return Check.outcome(contest::restore) + "\n" + of(contest);
+    }
+
+    private static String afterUndo(EstimateContest contest, int steps) {
+        StringBuilder text = new StringBuilder();
+        for (int i = 0; i < steps; i++) {
+            text.append(Check.outcome(contest::undo)).append('\n');
+        }
+        return text.append(of(contest)).toString();
+    }
+
+    /** Settles first, so that there is room for a question, whose number then shows. */
+    private static String afterChanges(EstimateContest contest) {
+        StringBuilder text = new StringBuilder();
+        text.append(Check.outcome(() -> contest.settle(500))).append(' ');
+        text.append(Check.outcome(contest::addPlayer)).append(' ');
+        int question = contest.openQuestion(3);
+        text.append(question).append(' ').append(Check.outcome(() -> contest.estimate(0, question, 1, 999, 2, 3)));
+        text.append(' ').append(contest.postpone()).append(' ').append(Check.outcome(() -> contest.withdraw(1)));
+        return text.append('\n').append(of(contest)).toString();
     }
 
     static void feed(EstimateContest contest, String text) {
