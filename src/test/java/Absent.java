@@ -83,19 +83,36 @@ final class Absent {
         Object at(EstimateContest contest, int player, int question);
     }
 
-    /** The call answers for each of the five players of the scene full, and for an only player. */
+    /** The call answers for each of the five players of the scene full, and for an only player, and for no more. */
     static void allPlayers(CallOf call, Object... due) {
         for (int player = 0; player < 5; player++) {
             Check.same("player " + player + " of five", call.at(Scenes.made(Scenes::full), player), due[player]);
         }
         Check.same("player 0 of one", Check.outcome(() -> call.at(Scenes.made(Scenes::single), 0)), due[5].toString());
+        noPlayersBeside(call);
     }
 
-    /** The call answers for each of the six questions 2 to 7 of the scene full, and for an only question. */
+    static void noPlayersBeside(CallOf call) {
+        Class<IndexOutOfBoundsException> due = IndexOutOfBoundsException.class;
+        Check.fails("player -1 of five", due, () -> call.at(Scenes.made(Scenes::full), -1));
+        Check.fails("player 5 of five", due, () -> call.at(Scenes.made(Scenes::full), 5));
+        Check.fails("player 1 of one", due, () -> call.at(Scenes.made(Scenes::single), 1));
+    }
+
+    /** The call answers for each of the six questions 2 to 7 of the scene full, and for an only one, and for no more. */
     static void allQuestions(CallOf call, Object... due) {
         for (int question = 2; question < 8; question++) {
             Check.same("question " + question, call.at(Scenes.made(Scenes::full), question), due[question - 2]);
         }
         Check.same("question 0 of one", call.at(Scenes.made(Scenes::single), 0), due[6]);
+        noQuestionsBeside(call);
+    }
+
+    static void noQuestionsBeside(CallOf call) {
+        Class<NoSuchElementException> due = NoSuchElementException.class;
+        Check.fails("question 1 of 2 to 7", due, () -> call.at(Scenes.made(Scenes::full), 1));
+        Check.fails("question 8 of 2 to 7", due, () -> call.at(Scenes.made(Scenes::full), 8));
+        Check.fails("question -1 of 0", due, () -> call.at(Scenes.made(Scenes::single), -1));
+        Check.fails("question 1 of 0", due, () -> call.at(Scenes.made(Scenes::single), 1));
     }
 }

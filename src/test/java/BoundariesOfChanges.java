@@ -1,4 +1,5 @@
 import java.util.NoSuchElementException;
+import java.util.function.Function;
 
 /** A test for each sentence of the promises 1 to 7: a new object, players, questions, estimates and settling. */
 final class BoundariesOfChanges {
@@ -130,6 +131,10 @@ final class BoundariesOfChanges {
             Check.same("openQuestion " + weight, contest.openQuestion(weight), 0);
             Check.same("weight", contest.weight(0), weight);
         }
+        for (int weight : new int[] {0, 4}) {
+            Check.fails("openQuestion " + weight, IllegalArgumentException.class,
+                    () -> new EstimateContest().openQuestion(weight));
+        }
     }
 
     private static void openQuestionAnswers() {
@@ -170,6 +175,7 @@ final class BoundariesOfChanges {
         }
         EstimateContest single = Scenes.made(Scenes::single);
         Check.same("player 0 of one", single.estimate(0, single.openQuestion(1), 0, 0, 1, 1), 89);
+        Absent.noPlayersBeside((c, player) -> c.estimate(player, c.questionAt(0), 0, 0, 1, 1));
     }
 
     private static void estimateTakesQuestions() {
@@ -180,6 +186,7 @@ final class BoundariesOfChanges {
             Check.same("low of " + question, contest.low(0, question), question);
         }
         Check.same("stakes", contest.stakedCoins(), 6);
+        Absent.noQuestionsBeside((c, question) -> c.estimate(0, question, 0, 0, 1, 1));
     }
 
     /** Makes the estimate as the only one. */
@@ -191,11 +198,19 @@ final class BoundariesOfChanges {
         return contest;
     }
 
+    private static void notTaken(int low, int high, int confidence, int stake) {
+        Check.fails("estimate " + low + "-" + high + " " + confidence + " " + stake, IllegalArgumentException.class,
+                () -> with(low, high, confidence, stake));
+    }
+
     private static void estimateTakesLows() {
         Check.same("low 0", with(0, 999, 5, 5).low(0, 0), 0);
         Check.same("low 1", with(1, 999, 5, 5).low(0, 0), 1);
         Check.same("low 998", with(998, 999, 5, 5).low(0, 0), 998);
         Check.same("low 999", with(999, 999, 5, 5).low(0, 0), 999);
+        notTaken(-1, 999, 5, 5);
+        notTaken(1000, 999, 5, 5);
+        notTaken(1000, 1000, 5, 5);
     }
 
     private static void estimateTakesHighs() {
@@ -205,18 +220,26 @@ final class BoundariesOfChanges {
         Check.same("high 999", with(0, 999, 5, 5).high(0, 0), 999);
         Check.same("high equal to low", with(500, 500, 5, 5).high(0, 0), 500);
         Check.same("high greater by 1", with(500, 501, 5, 5).high(0, 0), 501);
+        notTaken(0, -1, 5, 5);
+        notTaken(-1, -1, 5, 5);
+        notTaken(0, 1000, 5, 5);
+        notTaken(500, 499, 5, 5);
     }
 
     private static void estimateTakesConfidences() {
         for (int confidence = 1; confidence <= 9; confidence++) {
             Check.same("confidence", with(5, 6, confidence, 5).confidence(0, 0), confidence);
         }
+        notTaken(5, 6, 0, 5);
+        notTaken(5, 6, 10, 5);
     }
 
     private static void estimateTakesStakes() {
         for (int stake = 1; stake <= 20; stake++) {
             Check.same("stake", with(5, 6, 5, stake).stake(0, 0), stake);
         }
+        notTaken(5, 6, 5, 0);
+        notTaken(5, 6, 5, 21);
     }
 
     private static void estimateAnswers() {
@@ -295,10 +318,13 @@ final class BoundariesOfChanges {
 
     private static void settleTakes() {
         EstimateContest contest = new EstimateContest();
-        Scenes.questions(contest, 4);
+        Scenes.questions(contest, 5);
         for (int truth : new int[] {0, 1, 998, 999}) {
             Check.same("settle " + truth, contest.settle(truth), 0);
             Check.same("recentTruth", contest.recentTruth(0), truth);
+        }
+        for (int truth : new int[] {-1, 1000}) {
+            Check.fails("settle " + truth, IllegalArgumentException.class, () -> contest.settle(truth));
         }
     }
 
@@ -327,7 +353,7 @@ final class BoundariesOfChanges {
         }
     }
 
-    private static void refusedWithoutQuestions(java.util.function.Function<EstimateContest, Object> call) {
+    private static void refusedWithoutQuestions(Function<EstimateContest, Object> call) {
         Class<NoSuchElementException> due = NoSuchElementException.class;
         Check.refused("nothing there", due, Scenes::empty, call);
         Check.refused("players alone", due, c -> Scenes.players(c, 5), call);

@@ -1,3 +1,4 @@
+import java.util.Arrays;
 import java.util.NoSuchElementException;
 
 /** A test for each sentence of the promises 12 to 28: what is asked of open questions and of their estimates. */
@@ -111,9 +112,12 @@ final class BoundariesOfQuestions {
         EstimateContest contest = new EstimateContest();
         contest.openQuestion(1);
         Check.same("the only one", contest.questionAt(0), 0);
+        Check.fails("1 of one", NoSuchElementException.class, () -> contest.questionAt(1));
         Scenes.questions(contest, 5);
+        Check.fails("-1 of six", NoSuchElementException.class, () -> contest.questionAt(-1));
         Check.same("the first", contest.questionAt(0), 0);
         Check.same("the last", contest.questionAt(5), 5);
+        Check.fails("6 of six", NoSuchElementException.class, () -> contest.questionAt(6));
     }
 
     private static void questionAtRefuses() {
@@ -196,8 +200,11 @@ final class BoundariesOfQuestions {
 
     private static void estimatorsAre(EstimateContest contest, int question, int... due) {
         Check.same("estimateCount", contest.estimateCount(question), due.length);
-        for (int rank = 0; rank < due.length; rank++) {
-            Check.same("estimator " + rank, contest.estimator(question, rank), due[rank]);
+        for (int rank = -1; rank <= due.length; rank++) {
+            int asked = rank;
+            boolean isThere = rank >= 0 && rank < due.length;
+            Check.same("estimator " + rank, Check.outcome(() -> contest.estimator(question, asked)),
+                    isThere ? String.valueOf(due[rank]) : "throws IndexOutOfBoundsException");
         }
     }
 
@@ -222,6 +229,7 @@ final class BoundariesOfQuestions {
         Check.same("the second", contest.estimator(5, 0), 1);
         Check.same("the last", contest.estimator(3, 0), 0);
         Check.same("the only one", Scenes.made(Scenes::single).estimator(0, 0), 0);
+        Absent.noQuestionsBeside((c, question) -> c.estimator(question, 0));
     }
 
     private static void estimatorTakesRanks() {
@@ -229,6 +237,7 @@ final class BoundariesOfQuestions {
         estimatorsAre(contest, 4, 4, 0, 3, 1, 2);
         estimatorsAre(contest, 3, 0, 4);
         estimatorsAre(contest, 5, 1);
+        estimatorsAre(contest, 2);
     }
 
     private static void estimatorRefusesRanks() {
@@ -275,6 +284,7 @@ final class BoundariesOfQuestions {
             Check.same("of one, player " + player, contest.hasEstimate(player, 5), player == 1);
             Check.same("of none, player " + player, contest.hasEstimate(player, 2), false);
         }
+        Absent.noPlayersBeside((c, player) -> c.hasEstimate(player, c.questionAt(0)));
     }
 
     private static void ofEstimates() {
@@ -304,12 +314,14 @@ final class BoundariesOfQuestions {
             for (int player = 0; player < 5; player++) {
                 Check.same("player " + player, call.at(Scenes.made(Scenes::full), player, 4), players[player]);
             }
+            Absent.noPlayersBeside((c, player) -> call.at(c, player, c.questionAt(0)));
         });
         Sentence.promise(promise, QUESTION, () -> {
             Check.same("the first", call.at(Scenes.made(Scenes::full), 4, 4), players[4]);
             Check.same("the last", call.at(Scenes.made(Scenes::full), 0, 3), others[0]);
             Check.same("the last", call.at(Scenes.made(Scenes::full), 4, 3), others[1]);
             Check.same("the second", call.at(Scenes.made(Scenes::full), 1, 5), others[2]);
+            Absent.noQuestionsBeside((c, question) -> call.at(c, 0, question));
         });
         Sentence.promise(promise, NO_PLAYER, () -> Absent.players((c, player) -> call.at(c, player, 0)));
         Sentence.promise(promise, NO_QUESTION + ", or the player has made no estimate of it", () -> {
@@ -345,7 +357,7 @@ final class BoundariesOfQuestions {
         for (int i = 0; i < values.length; i++) {
             Check.same("coverage of " + values[i], contest.coverage(4, values[i]), due[i]);
         }
-        EstimateContest five = with(500, 500, 0, 999, 499, 500, 500, 501, 400, 600);
+        EstimateContest five = Scenes.intervals(500, 500, 0, 999, 499, 500, 500, 501, 400, 600);
         int[] around = {2, 3, 5, 3, 2};
         for (int value = 498; value <= 502; value++) {
             Check.same("coverage of " + value, five.coverage(0, value), around[value - 498]);
@@ -353,11 +365,14 @@ final class BoundariesOfQuestions {
     }
 
     private static void coverageTakes() {
-        EstimateContest contest = with(0, 999, 0, 0, 999, 999);
+        EstimateContest contest = Scenes.intervals(0, 999, 0, 0, 999, 999);
         int[] values = {0, 1, 998, 999};
         int[] due = {2, 1, 1, 2};
         for (int i = 0; i < values.length; i++) {
             Check.same("coverage of " + values[i], contest.coverage(0, values[i]), due[i]);
+        }
+        for (int value : new int[] {-1, 1000}) {
+            Check.fails("coverage of " + value, IllegalArgumentException.class, () -> contest.coverage(0, value));
         }
     }
 
@@ -369,22 +384,13 @@ final class BoundariesOfQuestions {
         }
     }
 
-    private static EstimateContest with(int... ends) {
-        EstimateContest contest = new EstimateContest();
-        Scenes.players(contest, ends.length / 2);
-        contest.openQuestion(1);
-        for (int i = 0; i < ends.length / 2; i++) {
-            contest.estimate(i, 0, ends[2 * i], ends[2 * i + 1], 5, 1);
-        }
-        return contest;
-    }
-
     private static void mostCovered(int promise, Absent.CallOf call) {
         Sentence.promise(promise, QUESTION, () -> {
             Check.same("the first", call.at(Scenes.made(Scenes::full), 4), 40);
             Check.same("the second", call.at(Scenes.made(Scenes::full), 5), 7);
             Check.same("the last", call.at(Scenes.made(Scenes::full), 3), 999);
             Check.same("the only one", call.at(Scenes.made(Scenes::single), 0), 100);
+            Absent.noQuestionsBeside(call);
         });
         Sentence.promise(promise, NO_QUESTION + ", or it has no estimates", () -> {
             Class<NoSuchElementException> due = NoSuchElementException.class;
@@ -424,7 +430,7 @@ final class BoundariesOfQuestions {
         most(call, 63, 63, 64, 0, 63, 64, 65);
         most(call, 64, 63, 64, 64, 65, 128, 200);
         most(call, 998, 998, 999, 990, 998, 999, 999);
-        EstimateContest contest = with(500, 510, 500, 520, 490, 500, 500, 500, 0, 999);
+        EstimateContest contest = Scenes.intervals(500, 510, 500, 520, 490, 500, 500, 500, 0, 999);
         contest.openQuestion(1);
         for (int player = 0; player < 5; player++) {
             contest.estimate(player, 1, 10 * player + 7, 10 * player + 16, 5, 1);
@@ -436,7 +442,7 @@ final class BoundariesOfQuestions {
     }
 
     private static void most(Absent.CallOf call, int due, int... ends) {
-        Check.same("of " + java.util.Arrays.toString(ends), call.at(with(ends), 0), due);
+        Check.same("of " + Arrays.toString(ends), call.at(Scenes.intervals(ends), 0), due);
     }
 
     private static void coveredValues() {
@@ -448,7 +454,7 @@ final class BoundariesOfQuestions {
     }
 
     private static void covered(int due, int... ends) {
-        Check.same("of " + java.util.Arrays.toString(ends), with(ends).coveredValues(0), due);
+        Check.same("of " + Arrays.toString(ends), Scenes.intervals(ends).coveredValues(0), due);
     }
 
     private static void coveredValuesCount() {

@@ -5,6 +5,8 @@ final class BoundariesOfResults {
     private static final String PLAYER = "`player`: index of a player";
     private static final String NO_PLAYER = "Throws `IndexOutOfBoundsException` if there is no such player";
 
+    private static final String EMPTY = "throws ArithmeticException";
+
     private BoundariesOfResults() {
     }
 
@@ -174,6 +176,8 @@ final class BoundariesOfResults {
         settleAll(contest, 6);
         Check.same("the last of eleven", contest.recentTruth(0), 106);
         Check.same("the fifth from the end", contest.recentTruth(4), 102);
+        Check.fails("the sixth from the end", NoSuchElementException.class, () -> contest.recentTruth(5));
+        Check.fails("behind the last", NoSuchElementException.class, () -> contest.recentTruth(-1));
     }
 
     private static void recentTruthRefuses() {
@@ -270,7 +274,7 @@ final class BoundariesOfResults {
     private static void means() {
         Sentence.promise(34, "Returns the mean score of the settled estimates of a player: the score converted to double,"
                 + " divided by their number converted to double", BoundariesOfResults::meanScores);
-        ofPlayer(34, EstimateContest::meanScore, 0.0, 5.5, 13.0, 70.0, 999.0, "throws ArithmeticException");
+        ofPlayer(34, EstimateContest::meanScore, 0.0, 5.5, 13.0, 70.0, 999.0, EMPTY);
         Sentence.promise(34, "Throws `ArithmeticException` if the player has no settled estimates",
                 BoundariesOfResults::meanScoreRefuses);
     }
@@ -383,10 +387,13 @@ final class BoundariesOfResults {
     private static void playerByScoreTakes() {
         EstimateContest one = Scenes.made(Scenes::single);
         Check.same("the only one", one.playerByScore(0), 0);
+        Check.fails("rank 1 of one", NoSuchElementException.class, () -> one.playerByScore(1));
         EstimateContest contest = Scenes.made(Scenes::full);
         ranksAre(contest, 0, 1, 2, 3, 4);
         contest.settle(999);
         ranksAre(contest, 1, 2, 3, 0, 4);
+        Check.fails("rank -1 of five", NoSuchElementException.class, () -> contest.playerByScore(-1));
+        Check.fails("rank 5 of five", NoSuchElementException.class, () -> contest.playerByScore(5));
     }
 
     private static void playerByScoreRefuses() {
@@ -412,22 +419,23 @@ final class BoundariesOfResults {
         Sentence.promise(40, "Returns how many settled estimates of a confidence hit",
                 () -> binsCount(EstimateContest::binHits, 0));
         ofBin(40, EstimateContest::binHits, 2, 0, 0, 0, 0, 0, 1, 0, 1);
-        ofBin(41, (c, confidence) -> Check.outcome(() -> c.binShare(confidence)), "1.0", "throws ArithmeticException",
-                "0.0", "throws ArithmeticException", "0.0", "throws ArithmeticException", "1.0",
-                "throws ArithmeticException", "0.5");
+        ofBin(41, EstimateContest::binShare, 1f, EMPTY, 0f, EMPTY, 0f, EMPTY, 1f, EMPTY, 0.5f);
     }
 
     private static void ofBin(int promise, Absent.CallOf call, Object... due) {
         Sentence.promise(promise, "`confidence`: the confidence, 1 to 9", () -> {
             for (int confidence = 1; confidence <= 9; confidence++) {
-                Object got = call.at(Scenes.made(Scenes::full), confidence);
-                Check.same("confidence " + confidence, got, due[confidence - 1]);
+                int asked = confidence;
+                String got = Check.outcome(() -> call.at(Scenes.made(Scenes::full), asked));
+                Check.same("confidence " + confidence, got, due[confidence - 1].toString());
+            }
+            for (int confidence : new int[] {0, 10}) {
+                Check.fails("confidence " + confidence, IllegalArgumentException.class,
+                        () -> call.at(Scenes.made(Scenes::full), confidence));
             }
         });
-        if (promise != 41) {
-            Sentence.promise(promise, "Throws `IllegalArgumentException` if the confidence is out of range",
-                    () -> binRefuses(call));
-        }
+        Sentence.promise(promise, "Throws `IllegalArgumentException` if the confidence is out of range",
+                () -> binRefuses(call));
     }
 
     private static void binRefuses(Absent.CallOf call) {
@@ -465,8 +473,6 @@ final class BoundariesOfResults {
     private static void shares() {
         Sentence.promise(41, "Returns the share of hits among the settled estimates of a confidence, both numbers"
                 + " converted to float", BoundariesOfResults::binShares);
-        Sentence.promise(41, "Throws `IllegalArgumentException` if the confidence is out of range",
-                () -> binRefuses(EstimateContest::binShare));
         Sentence.promise(41, "Throws `ArithmeticException` if there are no such estimates",
                 BoundariesOfResults::binShareRefuses);
     }

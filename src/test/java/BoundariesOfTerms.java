@@ -1,3 +1,5 @@
+import java.util.NoSuchElementException;
+
 /** A test for each sentence of the sections 'What it is' and 'Terms', but for those of commands, undo and errors. */
 final class BoundariesOfTerms {
     private BoundariesOfTerms() {
@@ -150,6 +152,8 @@ final class BoundariesOfTerms {
         contest.settle(4);
         Check.same("hits of 4", contest.hits(4), 1);
         Check.same("hits of 3", contest.hits(3), 0);
+        Check.fails("before the first", IndexOutOfBoundsException.class, () -> contest.coins(-1));
+        Check.fails("behind the last", IndexOutOfBoundsException.class, () -> contest.coins(5));
     }
 
     private static void firstCoins() {
@@ -247,7 +251,7 @@ final class BoundariesOfTerms {
         Check.same("the first is open", contest.positionOf(0), 5);
         Check.same("the last is open", contest.positionOf(5), 4);
         Check.same("settle", contest.settle(1), 0);
-        Check.fails("the settled one", java.util.NoSuchElementException.class, () -> contest.positionOf(1));
+        Check.fails("the settled one", NoSuchElementException.class, () -> contest.positionOf(1));
         Check.same("the sixth again", contest.openQuestion(3), 6);
         Check.fails("the seventh again", IllegalStateException.class, () -> contest.openQuestion(3));
     }
@@ -345,7 +349,7 @@ final class BoundariesOfTerms {
     private static void theFirstIsSettled() {
         EstimateContest contest = Scenes.made(Scenes::full);
         Check.same("the first of six", contest.settle(5), 1);
-        Check.fails("is not open", java.util.NoSuchElementException.class, () -> contest.weight(4));
+        Check.fails("is not open", NoSuchElementException.class, () -> contest.weight(4));
         Check.same("the next one", contest.questionAt(0), 5);
         for (int next : new int[] {6, 7, 2, 3}) {
             contest.settle(5);
@@ -353,7 +357,7 @@ final class BoundariesOfTerms {
         }
         Check.same("the last", contest.settle(999), 2);
         Check.same("none is open", contest.openCount(), 0);
-        Check.fails("none to settle", java.util.NoSuchElementException.class, () -> contest.settle(0));
+        Check.fails("none to settle", NoSuchElementException.class, () -> contest.settle(0));
     }
 
     private static void allAreProcessed() {
@@ -563,7 +567,7 @@ final class BoundariesOfTerms {
         EstimateContest single = Scenes.made(Scenes::single);
         single.withdraw(0);
         single.settle(150);
-        Check.fails("an only player without a settled estimate", java.util.NoSuchElementException.class,
+        Check.fails("an only player without a settled estimate", NoSuchElementException.class,
                 single::bestCalibrated);
     }
 

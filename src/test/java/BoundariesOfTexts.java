@@ -546,8 +546,11 @@ final class BoundariesOfTexts {
             EstimateContest contest = Scenes.made(Scenes::full);
             Check.same("the first", contest.outputChar(0), 'q');
             Check.same("the last", contest.outputChar(25), '1');
+            Check.fails("before the first", IndexOutOfBoundsException.class, () -> contest.outputChar(-1));
+            Check.fails("behind the last", IndexOutOfBoundsException.class, () -> contest.outputChar(26));
             contest.writeQuestion(2);
             Check.same("the last of a shorter one", contest.outputChar(3), '1');
+            Check.fails("behind it", IndexOutOfBoundsException.class, () -> contest.outputChar(4));
         });
         Sentence.promise(48, "Throws `IndexOutOfBoundsException` if there is no such character",
                 BoundariesOfTexts::outputCharRefuses);

@@ -14,18 +14,8 @@ final class CoverageTest {
         Check.finish();
     }
 
-    private static EstimateContest with(int... ends) {
-        EstimateContest contest = new EstimateContest();
-        Scenes.players(contest, ends.length / 2);
-        contest.openQuestion(1);
-        for (int i = 0; i < ends.length / 2; i++) {
-            contest.estimate(i, 0, ends[2 * i], ends[2 * i + 1], 5, 1);
-        }
-        return contest;
-    }
-
     private static void most(int value, int covered, int... ends) {
-        EstimateContest contest = with(ends);
+        EstimateContest contest = Scenes.intervals(ends);
         Check.same("mostCovered", contest.mostCovered(0), value);
         Check.same("mostCoveredBySweep", contest.mostCoveredBySweep(0), value);
         Check.same("coveredValues", contest.coveredValues(0), covered);
@@ -36,7 +26,7 @@ final class CoverageTest {
             }
         }
         for (int start = 0; start < 1000; start += 250) {
-            EstimateContest asked = with(ends);
+            EstimateContest asked = Scenes.intervals(ends);
             boolean agrees = true;
             for (int v = start; v < start + 250; v++) {
                 agrees &= asked.coverage(0, v) == dueCoverage[v];
@@ -47,7 +37,7 @@ final class CoverageTest {
     }
 
     private static void coverageCountsEnds() {
-        EstimateContest contest = with(10, 20, 20, 30);
+        EstimateContest contest = Scenes.intervals(10, 20, 20, 30);
         int[] values = {0, 9, 10, 19, 20, 21, 30, 31, 999};
         int[] due = {0, 0, 1, 1, 2, 1, 1, 0, 0};
         for (int i = 0; i < values.length; i++) {
@@ -85,7 +75,7 @@ final class CoverageTest {
 
     /** All five share a value of the question 0, no two share one of the question 1. */
     private static void questionsAreApart() {
-        EstimateContest contest = with(500, 510, 500, 520, 490, 500, 500, 500, 0, 999);
+        EstimateContest contest = Scenes.intervals(500, 510, 500, 520, 490, 500, 500, 500, 0, 999);
         contest.openQuestion(1);
         for (int player = 0; player < 5; player++) {
             contest.estimate(player, 1, 20 * player + 3, 20 * player + 12, 5, 1);
@@ -102,7 +92,7 @@ final class CoverageTest {
     }
 
     private static void settledAndWithdrawnDoNotCount() {
-        EstimateContest contest = with(5, 7, 6, 9);
+        EstimateContest contest = Scenes.intervals(5, 7, 6, 9);
         contest.withdraw(1);
         Check.same("mostCovered", contest.mostCovered(0), 5);
         Check.same("coverage", contest.coverage(0, 6), 1);

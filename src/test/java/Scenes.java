@@ -92,6 +92,17 @@ final class Scenes {
         contest.estimate(0, 0, 100, 199, 4, 10);
     }
 
+    /** One player for each interval, whose ends are given, and one question. */
+    static EstimateContest intervals(int... ends) {
+        EstimateContest contest = new EstimateContest();
+        players(contest, ends.length / 2);
+        contest.openQuestion(1);
+        for (int i = 0; i < ends.length / 2; i++) {
+            contest.estimate(i, 0, ends[2 * i], ends[2 * i + 1], 5, 1);
+        }
+        return contest;
+    }
+
     static void questionsAlone(EstimateContest contest) {
         contest.addPlayer();
         questions(contest, 6);
