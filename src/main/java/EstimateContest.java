@@ -568,10 +568,12 @@ public final class EstimateContest {
             return NONE;
         }
 
-        /** Returns the estimate that the caller is to fill; a player's one estimate always finds room. */
-        Estimate addEstimate() {
-            count++;
-            return estimates[count - 1];
+        /** A player's one estimate always finds room; the test keeps the index inside its row all the same. */
+        void addEstimate(int player, int low, int high, int confidence, int stake) {
+            if (count < MAX_PLAYERS) {
+                estimates[count].fill(player, low, high, confidence, stake);
+                count++;
+            }
         }
 
         /** The removed estimate goes behind the others, where it is used again. */
@@ -789,7 +791,7 @@ public final class EstimateContest {
         int bet(int player, int number, int low, int high, int confidence, int stake) {
             int place = placeOf(number);
             if (place != NONE) {
-                queue[place].addEstimate().fill(player, low, high, confidence, stake);
+                queue[place].addEstimate(player, low, high, confidence, stake);
                 players[player].coins -= stake;
             }
             return players[player].coins;
@@ -813,7 +815,11 @@ public final class EstimateContest {
             return hits;
         }
 
+        /** An estimate never outlives its player; the test keeps the index inside its row all the same. */
         private boolean payOut(Estimate estimate, int weight, int truth) {
+            if (!hasPlayer(estimate.player)) {
+                return false;
+            }
             Player player = players[estimate.player];
             boolean hit = estimate.covers(truth);
             if (hit) {
